@@ -12,6 +12,8 @@ public final class BedMessages {
     private static final int MOST_NAME = 12;
     private static final int MOST_CODES = 12;
     private static final int MOST_PATIENT = 99;
+    /** A value has at most four digits. */
+    private static final int MOST_DIGITS = 4;
     private static final int REMEMBERED = 16;
     private static final int WARDS = 4;
     private static final int BEDS_IN_WARD = 8;
@@ -31,6 +33,7 @@ public final class BedMessages {
     private static final int ESCAPE = 3;
     private static final int SUB = 4;
     private static final String ESCAPE_LETTERS = "FSRET";
+    private static final String HEXADECIMAL = "0123456789ABCDEF";
 
     private static final int NO_HEADER = 1;
     private static final int WRONG_SEPARATORS = 2;
@@ -82,20 +85,22 @@ public final class BedMessages {
     }
 
     public int end() {
-        latestReplayed = false;
         receiptText.clear();
+        latestReplayed = false;
         latestReason = frame.readInto(spare);
         frame.typed.clear();
-        if (latestReason == 0 && spare.identity() == 0) {
-            latestReason = NO_IDENTITY;
-        }
         if (latestReason != 0) {
             return REJECTED;
         }
-        Message read = spare;
-        spare = latest;
-        latest = read;
-        latestReason = reasonOfLatest();
+        makeSpareLatest();
+        int remembered = ledger.reasonOf(latest.identity());
+        if (remembered != NONE) {
+            latestReplayed = true;
+            latestReason = remembered;
+        } else {
+            latestReason = hospital.take(latest);
+            ledger.add(latest.identity(), latestReason);
+        }
         writeReceipt();
         return receiptFor(latestReason);
     }
@@ -193,15 +198,15 @@ public final class BedMessages {
     }
 
     private static boolean isCapital(int c) {
-        return isBetween(c, 'A', 'Z');
+        return c >= 'A' && c <= 'Z';
     }
 
     private static boolean isSmall(int c) {
-        return isBetween(c, 'a', 'z');
+        return c >= 'a' && c <= 'z';
     }
 
     private static boolean isDigit(int c) {
-        return isBetween(c, '0', '9');
+        return c >= '0' && c <= '9';
     }
 
     private static boolean isLetterOrDigit(int c) {
@@ -220,20 +225,10 @@ public final class BedMessages {
         return reason >= NO_PATIENT ? ERROR : REJECTED;
     }
 
-    private int reasonOfLatest() {
-        long identity = latest.identity();
-        int remembered = ledger.reasonOf(identity);
-        if (remembered != NONE) {
-            latestReplayed = true;
-            return remembered;
-        }
-        Kind kind = latest.kind();
-        if (kind == null) {
-            return NO_TYPE;
-        }
-        int reason = hospital.take(latest, kind);
-        ledger.add(identity, reason);
-        return reason;
+    private void makeSpareLatest() {
+        Message read = spare;
+        spare = latest;
+        latest = read;
     }
 
     private void writeReceipt() {
@@ -381,7 +376,7 @@ public final class BedMessages {
         private static final int NAME_LENGTH = 3;
         private final Chars typed = new Chars(MOST_CHARACTERS);
 
-        /** Answers the reason 1 .. 4 why the frame is no message, 0 when it is one. */
+        /** Answers the reason 1 .. 5 why the frame is no message, 0 when it is one. */
         int readInto(Message message) {
             message.clear();
             if (!typed.beginsWith(HEADER)) {
@@ -397,7 +392,10 @@ public final class BedMessages {
             if (!readSegments(message)) {
                 return MALFORMED;
             }
-            return message.segmentCount > MOST_SEGMENTS ? TOO_MANY_SEGMENTS : 0;
+            if (message.segmentCount > MOST_SEGMENTS) {
+                return TOO_MANY_SEGMENTS;
+            }
+            return message.identity() == 0 ? NO_IDENTITY : 0;
         }
 
         private boolean readSegments(Message message) {
@@ -433,60 +431,43 @@ public final class BedMessages {
         }
 
         private boolean readFields(Message message, int begin, int end) {
-            if (begin < end && typed.at(begin) != message.separators.at(FIELD)) {
+            Separators separators = message.separators;
+            if (begin < end && typed.at(begin) != separators.at(FIELD)) {
                 return false;
             }
-            int taken = 0;
+            int taken = 1;
             for (int at = begin; at < end; at += taken) {
-                taken = readSign(message, at);
-                if (taken < 1) {
+                int sign = typed.at(at);
+                int place = separators.placeOf(sign);
+                taken = 1;
+                if (place == ESCAPE) {
+                    taken = typed.at(at + 1) == 'X' ? 5 : 3;
+                    sign = escaped(separators, at);
+                } else if (place != NONE) {
+                    sign = Message.MARK + place;
+                }
+                if (sign == NONE) {
                     return false;
                 }
+                message.add(sign);
             }
             return true;
         }
 
-        /** Answers how many characters the sign takes in the frame, 0 when it is a wrong escape. */
-        private int readSign(Message message, int at) {
-            int c = typed.at(at);
-            int place = message.separators.placeOf(c);
-            if (place == ESCAPE) {
-                return readEscape(message, at);
-            }
-            message.add(place == NONE ? c : Message.MARK + place);
-            return 1;
-        }
-
-        private int readEscape(Message message, int at) {
+        /** The character for which the escape stands that begins here, NONE when it is wrong. */
+        private int escaped(Separators separators, int at) {
+            int escape = separators.at(ESCAPE);
             int letter = typed.at(at + 1);
-            int place = letter == NONE ? NONE : ESCAPE_LETTERS.indexOf((char) letter);
-            if (place >= 0 && endsEscape(message, at + 2)) {
-                message.add(message.separators.at(place));
-                return 3;
+            if (typed.at(at + 2) == escape) {
+                return separators.at(ESCAPE_LETTERS.indexOf((char) letter));
             }
-            int c = letter == 'X' ? hexadecimal(at + 2) : NONE;
-            if (isBetween(c, 32, 126) && endsEscape(message, at + 4)) {
-                message.add(c);
-                return 5;
+            if (letter != 'X' || typed.at(at + 4) != escape) {
+                return NONE;
             }
-            return 0;
-        }
-
-        private boolean endsEscape(Message message, int at) {
-            return typed.at(at) == message.separators.at(ESCAPE);
-        }
-
-        private int hexadecimal(int at) {
-            int high = digitValue(typed.at(at));
-            int low = digitValue(typed.at(at + 1));
-            return high == NONE || low == NONE ? NONE : 16 * high + low;
-        }
-
-        private static int digitValue(int c) {
-            if (isDigit(c)) {
-                return c - '0';
-            }
-            return isBetween(c, 'A', 'F') ? c - 'A' + 10 : NONE;
+            int high = HEXADECIMAL.indexOf((char) typed.at(at + 2));
+            int low = HEXADECIMAL.indexOf((char) typed.at(at + 3));
+            int c = 16 * high + low;
+            return high >= 0 && low >= 0 && isBetween(c, 32, 126) ? c : NONE;
         }
     }
 
@@ -525,10 +506,6 @@ public final class BedMessages {
             segmentCount++;
         }
 
-        private int signAt(int at) {
-            return at < 0 || at >= length ? SEGMENT_MARK : signs[at];
-        }
-
         /** Where sub 1 of a component begins, NONE when it is not there. */
         int find(int segment, int field, int repetition, int component) {
             if (segment < 1 || segment > segmentCount || segment > MOST_SEGMENTS) {
@@ -542,7 +519,7 @@ public final class BedMessages {
                 if (f == field && r == repetition && c == component) {
                     return at;
                 }
-                int sign = signAt(at);
+                int sign = at < length ? signs[at] : SEGMENT_MARK;
                 if (sign == SEGMENT_MARK) {
                     return NONE;
                 }
@@ -562,8 +539,8 @@ public final class BedMessages {
 
         /** Where the repetition behind the one that begins here begins, NONE when it is the last. */
         int nextRepetition(int begin) {
-            for (int at = begin; at < length; at++) {
-                int sign = signAt(at);
+            for (int at = Math.max(begin, 0); at < length; at++) {
+                int sign = signs[at];
                 if (sign == MARK + REPEAT) {
                     return at + 1;
                 }
@@ -574,10 +551,11 @@ public final class BedMessages {
             return NONE;
         }
 
+        /** A text that is not there begins nowhere, at NONE, and has no characters. */
         int textLength(int begin) {
             int count = 0;
             if (begin >= 0) {
-                while (begin + count < length && signAt(begin + count) < MARK) {
+                while (begin + count < length && signs[begin + count] < MARK) {
                     count++;
                 }
             }
@@ -585,7 +563,7 @@ public final class BedMessages {
         }
 
         int character(int begin, int i) {
-            return i < 0 || i >= textLength(begin) ? NONE : signAt(begin + i);
+            return i < 0 || i >= textLength(begin) ? NONE : signs[begin + i];
         }
 
         boolean says(int begin, String word) {
@@ -593,7 +571,7 @@ public final class BedMessages {
                 return false;
             }
             for (int i = 0; i < word.length(); i++) {
-                if (signAt(begin + i) != word.charAt(i)) {
+                if (signs[begin + i] != word.charAt(i)) {
                     return false;
                 }
             }
@@ -603,7 +581,7 @@ public final class BedMessages {
         void copyText(int begin, Chars out) {
             int count = textLength(begin);
             for (int i = 0; i < count; i++) {
-                out.put(signAt(begin + i));
+                out.put(signs[begin + i]);
             }
         }
 
@@ -615,7 +593,7 @@ public final class BedMessages {
             }
             int number = 0;
             for (int i = 0; i < count; i++) {
-                int digit = signAt(begin + i);
+                int digit = signs[begin + i];
                 if (!isDigit(digit)) {
                     return NONE;
                 }
@@ -624,14 +602,16 @@ public final class BedMessages {
             return number;
         }
 
-        boolean isNamed(int segment, String word) {
-            return says(find(segment, 0, 1, 1), word);
+        /** The code of a segment, NONE when it has none. */
+        int code(int segment) {
+            int begin = find(segment, 1, 1, 1);
+            return textLength(begin) == 2 ? codeOf(signs[begin], signs[begin + 1]) : NONE;
         }
 
-        /** The first segment with this name, NONE when there is none. */
-        int segmentNamed(String word) {
-            for (int segment = 1; segment <= segmentCount; segment++) {
-                if (isNamed(segment, word)) {
+        /** The first segment with this name from a segment on, NONE when there is none. */
+        int nextNamed(String word, int from) {
+            for (int segment = Math.max(from, 1); segment <= segmentCount; segment++) {
+                if (says(find(segment, 0, 1, 1), word)) {
                     return segment;
                 }
             }
@@ -647,7 +627,7 @@ public final class BedMessages {
                 return 0;
             }
             for (int i = 0; i < count; i++) {
-                int c = signAt(begin + i);
+                int c = signs[begin + i];
                 if (!isLetterOrDigit(c)) {
                     return 0;
                 }
@@ -672,7 +652,7 @@ public final class BedMessages {
             out.putAll(HEADER);
             chosen.putAllTo(out);
             for (int at = HEADER.length(); at < length; at++) {
-                int sign = signAt(at);
+                int sign = signs[at];
                 if (sign < MARK) {
                     chosen.putTextCharacter(sign, out);
                 } else {
@@ -697,7 +677,11 @@ public final class BedMessages {
             return NONE;
         }
 
+        /** What is rejected is not remembered. */
         void add(long identity, int reason) {
+            if (receiptFor(reason) == REJECTED) {
+                return;
+            }
             identities[oldest] = identity;
             reasons[oldest] = reason;
             oldest = oldest + 1 < REMEMBERED ? oldest + 1 : 0;
@@ -792,29 +776,34 @@ public final class BedMessages {
             return count;
         }
 
-        /** Does what a message says; answers the reason 11 .. 18 why not, 0 when it is done. */
-        int take(Message message, Kind kind) {
-            int number = patientNumber(message);
+        /** Does what a message says; answers the reason 6 .. 18 why not, 0 when it is done. */
+        int take(Message message) {
+            Kind kind = message.kind();
+            if (kind == null) {
+                return NO_TYPE;
+            }
+            int pid = message.nextNamed("PID", 1);
+            int number = patientNumber(message, pid);
             if (number == NONE) {
                 return NO_PATIENT;
             }
-            Patient patient = find(number);
+            int bed = bedAsked(message);
             switch (kind) {
                 case ADMIT:
-                    return admit(message, number, patient);
+                    return admit(message, pid, number, bed);
                 case MOVE:
-                    return move(message, number, patient);
+                    return move(number, bed);
                 case LEAVE:
-                    return leave(patient);
+                    return leave(number);
                 case RENAME:
-                    return rename(message, patient);
+                    return rename(message, pid, number);
                 default:
-                    return measure(message, patient);
+                    return measure(message, number);
             }
         }
 
-        private int admit(Message message, int number, Patient patient) {
-            int bed = bedAsked(message);
+        private int admit(Message message, int pid, int number, int bed) {
+            Patient patient = find(number);
             if (bed == NONE) {
                 return NO_BED;
             }
@@ -824,17 +813,17 @@ public final class BedMessages {
             if (patientIn(bed) != 0) {
                 return BED_TAKEN;
             }
-            Patient admitted = patient == null ? new Patient() : patient;
-            if (number >= 1 && number <= MOST_PATIENT) {
-                patients[number] = admitted;
+            if (patient == null) {
+                patient = new Patient();
+                patients[number] = patient;
             }
-            putInBed(number, admitted, bed);
-            takeNames(message, admitted);
+            putInBed(number, patient, bed);
+            takeNames(message, pid, patient);
             return 0;
         }
 
-        private int move(Message message, int number, Patient patient) {
-            int bed = bedAsked(message);
+        private int move(int number, int bed) {
+            Patient patient = find(number);
             if (bed == NONE) {
                 return NO_BED;
             }
@@ -849,7 +838,8 @@ public final class BedMessages {
             return 0;
         }
 
-        private int leave(Patient patient) {
+        private int leave(int number) {
+            Patient patient = find(number);
             if (patient == null || patient.bed == NONE) {
                 return NOT_IN_BED;
             }
@@ -857,26 +847,39 @@ public final class BedMessages {
             return 0;
         }
 
-        private int rename(Message message, Patient patient) {
+        private int rename(Message message, int pid, int number) {
+            Patient patient = find(number);
             if (patient == null) {
                 return NOT_KNOWN;
             }
-            takeNames(message, patient);
+            takeNames(message, pid, patient);
             return 0;
         }
 
-        private int measure(Message message, Patient patient) {
+        private int measure(Message message, int number) {
+            Patient patient = find(number);
             if (patient == null || patient.bed == NONE) {
                 return NOT_IN_BED;
             }
-            if (!areResultsRight(message)) {
+            trial.copyFrom(patient.measured);
+            int segment = message.nextNamed("OBX", 1);
+            boolean isThere = segment != NONE;
+            boolean fits = true;
+            for (int n = 0; n < MOST_SEGMENTS && segment != NONE; n++) {
+                int code = message.code(segment);
+                int values = message.find(segment, 2, 1, 1);
+                if (code == NONE || !areValues(message, values)) {
+                    return WRONG_RESULT;
+                }
+                // one that does not fit is told only when no later one is wrong
+                fits = fits && tryValues(message, code, values);
+                segment = message.nextNamed("OBX", segment + 1);
+            }
+            if (!isThere) {
                 return WRONG_RESULT;
             }
-            trial.copyFrom(patient.measured);
-            for (int segment = 1; segment <= message.segmentCount; segment++) {
-                if (message.isNamed(segment, "OBX") && !takeResults(message, segment)) {
-                    return TOO_MANY_CODES;
-                }
+            if (!fits) {
+                return TOO_MANY_CODES;
             }
             patient.measured.copyFrom(trial);
             return 0;
@@ -896,13 +899,15 @@ public final class BedMessages {
             patient.bed = NONE;
         }
 
-        private static int patientNumber(Message message) {
-            int begin = message.find(message.segmentNamed("PID"), 1, 1, 1);
-            return message.character(begin, 0) == '0' ? NONE : message.number(begin, 2);
+        private static int patientNumber(Message message, int pid) {
+            int begin = message.find(pid, 1, 1, 1);
+            int number = message.number(begin, 2);
+            boolean isRight = isBetween(number, 1, MOST_PATIENT) && message.character(begin, 0) != '0';
+            return isRight ? number : NONE;
         }
 
         private static int bedAsked(Message message) {
-            int segment = message.segmentNamed("PV1");
+            int segment = message.nextNamed("PV1", 1);
             int ward = message.find(segment, 1, 1, 1);
             int bed = message.find(segment, 1, 1, 2);
             int letter = message.character(ward, 0);
@@ -914,10 +919,9 @@ public final class BedMessages {
             return BEDS_IN_WARD * (letter - 'A') + digit;
         }
 
-        private static void takeNames(Message message, Patient patient) {
-            int segment = message.segmentNamed("PID");
-            takeName(message, message.find(segment, 2, 1, 1), patient.family);
-            takeName(message, message.find(segment, 2, 1, 2), patient.first);
+        private static void takeNames(Message message, int pid, Patient patient) {
+            takeName(message, message.find(pid, 2, 1, 1), patient.family);
+            takeName(message, message.find(pid, 2, 1, 2), patient.first);
         }
 
         private static void takeName(Message message, int begin, Chars kept) {
@@ -930,47 +934,26 @@ public final class BedMessages {
             }
         }
 
-        private static int codeIn(Message message, int segment) {
-            int begin = message.find(segment, 1, 1, 1);
-            return message.textLength(begin) != 2 ? NONE
-                    : codeOf(message.character(begin, 0), message.character(begin, 1));
-        }
-
-        private static boolean areResultsRight(Message message) {
-            int count = 0;
-            for (int segment = 1; segment <= message.segmentCount; segment++) {
-                if (message.isNamed(segment, "OBX")) {
-                    if (!isResultRight(message, segment)) {
-                        return false;
-                    }
-                    count++;
-                }
-            }
-            return count > 0;
-        }
-
-        private static boolean isResultRight(Message message, int segment) {
-            int begin = message.find(segment, 2, 1, 1);
-            if (codeIn(message, segment) == NONE || begin == NONE) {
-                return false;
-            }
-            for (int r = 0; r < MOST_CHARACTERS && begin != NONE; r++) {
-                if (message.number(begin, 4) == NONE && !message.says(begin, NULL)) {
+        /** Whether each repetition from this one on is a value; one that is not there is none. */
+        private static boolean areValues(Message message, int first) {
+            boolean isThere = first != NONE;
+            int begin = first;
+            for (int n = 0; n < MOST_CHARACTERS && begin != NONE; n++) {
+                if (message.number(begin, MOST_DIGITS) == NONE && !message.says(begin, NULL)) {
                     return false;
                 }
                 begin = message.nextRepetition(begin);
             }
-            return true;
+            return isThere;
         }
 
         /** Answers false when there would be too many codes. */
-        private boolean takeResults(Message message, int segment) {
-            int code = codeIn(message, segment);
-            int begin = message.find(segment, 2, 1, 1);
-            for (int r = 0; r < MOST_CHARACTERS && begin != NONE; r++) {
+        private boolean tryValues(Message message, int code, int first) {
+            int begin = first;
+            for (int n = 0; n < MOST_CHARACTERS && begin != NONE; n++) {
                 if (message.says(begin, NULL)) {
                     trial.remove(code);
-                } else if (!trial.set(code, message.number(begin, 4))) {
+                } else if (!trial.set(code, message.number(begin, MOST_DIGITS))) {
                     return false;
                 }
                 begin = message.nextRepetition(begin);
