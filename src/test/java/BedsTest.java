@@ -52,13 +52,13 @@ public final class BedsTest {
     private static void movesAndLeaves(Check check) {
         BedMessages x = new BedMessages();
         send(x, "ADT^A01", "\rPID|9|Doe^Ann\rPV1|A^0");
-        send(x, "ADT^A02", "\rPID|9|Roe^Bea\rPV1|D^7");
+        check.due("move", send(x, "ADT^A02", "\rPID|9|Roe^Bea\rPV1|D^7"), BedMessages.ACCEPTED);
         check.due("bed that was left", x.patient(0, 0), 0);
         check.due("bed that was taken", x.patient(3, 7), 9);
         check.due("bedOf(9)", x.bedOf(9), 31);
         check.due("inBeds()", x.inBeds(), 1);
         check.due("A02 gives no name", Check.nameText(x, 9, 1), "Doe");
-        send(x, "ADT^A03", "\rPID|9|Roe^Bea");
+        check.due("leave", send(x, "ADT^A03", "\rPID|9|Roe^Bea"), BedMessages.ACCEPTED);
         check.due("bed that was left", x.patient(3, 7), 0);
         check.due("bedOf(9)", x.bedOf(9), BedMessages.NONE);
         check.due("inBeds()", x.inBeds(), 0);

@@ -25,7 +25,7 @@ public final class EndTest {
 
     private static void noHeader(Check check) {
         for (String frame : new String[] {"", "H", "HD", "\r", "\rHDR|^~\\&||a|ADT^A08", "hdr|^~\\&", "XHDR",
-            "HDX|^~\\&||a|ADT^A08", " HDR|^~\\&", "PID|1"}) {
+            "HDX|^~\\&||a|ADT^A08", "XDR|^~\\&||a|ADT^A08", "HXR|^~\\&||a|ADT^A08", " HDR|^~\\&", "PID|1"}) {
             rejected(check, frame, 1);
         }
     }

@@ -122,6 +122,19 @@ public final class ErrorTest {
             check.dueReceipt(x, head("ORU^R01") + "\rPID|1\rOBX" + fields, ACCEPTED, 0);
         }
         check.dueReceipt(x, head("ORU^R01") + "\rOBX|ab|1\rPID|1", ACCEPTED, 0);
+        aLongerMessageBefore(check);
+    }
+
+    /** What stood behind the end of a shorter message in a longer one before is not looked at. */
+    private static void aLongerMessageBefore(Check check) {
+        BedMessages x = withOneInBed();
+        for (int i = 0; i < 3; i++) {
+            Check.send(x, head("ORU^R01") + "\rPID|1\rOBX|ab|" + "~".repeat(50));
+        }
+        for (int i = 0; i < 3; i++) {
+            check.dueReceipt(x, head("ORU^R01") + "\rPID|1\rOBX|ab|7", ACCEPTED, 0);
+            check.due("value", x.result(1, 'a', 'b'), 7);
+        }
     }
 
     private static String results(String... codesAndValues) {
