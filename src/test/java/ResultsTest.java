@@ -88,7 +88,7 @@ public final class ResultsTest {
     }
 
     private static void everyCode(Check check) {
-        for (int code = 0; code < 26 * 26; code += 5) {
+        for (int code = 0; code < 26 * 26; code++) {
             char first = (char) ('a' + code / 26);
             char second = (char) ('a' + code % 26);
             BedMessages x = new BedMessages();

@@ -1,14 +1,24 @@
+import java.util.function.IntUnaryOperator;
+
 /** Counts answers that are not as due, and speaks to a BedMessages in whole frames. */
 final class Check {
     static final String HEAD = "HDR|^~\\&|LAB|";
+    /** Longer than any text that is kept: a text without an end is a fault, not a test without one. */
+    private static final int MOST_TEXT = 1000;
     private int wrong = 0;
     private int asked = 0;
+    private String sentence = "";
+
+    /** The sentence of the document that the next answers are about; a fault is told with it. */
+    void about(String quoted) {
+        sentence = "[" + quoted + "] ";
+    }
 
     void due(String call, long got, long want) {
         asked++;
         if (got != want) {
             wrong++;
-            System.out.println(call + " answered " + got + ", due is " + want);
+            System.out.println(sentence + call + " answered " + got + ", due is " + want);
         }
     }
 
@@ -20,8 +30,21 @@ final class Check {
         asked++;
         if (!got.equals(want)) {
             wrong++;
-            System.out.println(call + " answered " + shown(got) + ", due is " + shown(want));
+            System.out.println(sentence + call + " answered " + shown(got) + ", due is " + shown(want));
         }
+    }
+
+    /** Of two states, written in lines, the first line that differs is told. */
+    void same(String what, String got, String want) {
+        String[] gotLines = got.split("\n");
+        String[] wantLines = want.split("\n");
+        for (int i = 0; i < Math.min(gotLines.length, wantLines.length); i++) {
+            if (!gotLines[i].equals(wantLines[i])) {
+                due(what, gotLines[i], wantLines[i]);
+                return;
+            }
+        }
+        due(what + ", lines", gotLines.length, wantLines.length);
     }
 
     /** Sends a frame to an object and looks at its receipt and reason. */
@@ -69,43 +92,35 @@ final class Check {
         return HEAD + identity + "|ADT^A01\rPID|" + patient + "\rPV1|" + bed;
     }
 
-    static String receiptText(BedMessages x) {
+    /** The characters from number 0 on up to the first NONE. */
+    private static String upToNone(IntUnaryOperator character) {
         StringBuilder text = new StringBuilder();
-        int length = x.receiptLength();
-        for (int i = 0; i < length; i++) {
-            text.append((char) x.receipt(i));
+        int c = character.applyAsInt(0);
+        while (c != BedMessages.NONE && text.length() < MOST_TEXT) {
+            text.append((char) c);
+            c = character.applyAsInt(text.length());
         }
         return text.toString();
+    }
+
+    static String receiptText(BedMessages x) {
+        return upToNone(x::receipt);
     }
 
     static String nameText(BedMessages x, int patient, int part) {
-        StringBuilder text = new StringBuilder();
-        for (int c = x.name(patient, part, 0); c != BedMessages.NONE; c = x.name(patient, part, text.length())) {
-            text.append((char) c);
-        }
-        return text.toString();
+        return upToNone(i -> x.name(patient, part, i));
     }
 
     static String partText(BedMessages x, int segment, int field, int repetition, int component) {
-        StringBuilder text = new StringBuilder();
-        int c = x.text(segment, field, repetition, component, 0);
-        while (c != BedMessages.NONE) {
-            text.append((char) c);
-            c = x.text(segment, field, repetition, component, text.length());
-        }
-        return text.toString();
+        return upToNone(i -> x.text(segment, field, repetition, component, i));
+    }
+
+    static String writtenText(BedMessages x) {
+        return upToNone(x::written);
     }
 
     static int write(BedMessages x, String separators) {
         return x.write(separators.charAt(0), separators.charAt(1), separators.charAt(2),
                 separators.charAt(3), separators.charAt(4));
-    }
-
-    static String writtenText(BedMessages x) {
-        StringBuilder text = new StringBuilder();
-        for (int c = x.written(0); c != BedMessages.NONE; c = x.written(text.length())) {
-            text.append((char) c);
-        }
-        return text.toString();
     }
 }
