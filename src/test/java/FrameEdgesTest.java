@@ -294,7 +294,7 @@ public final class FrameEdgesTest {
         escapeIs(FIVE, "\\X7C\\", "|");
         escapeIs(FIVE, "\\X5C\\", "\\");
         for (String digits : new String[] {"1F", "7F", "00", "0D", "80", "FF", "A0", "2G", "G2", "2/", "2:", "2@", "2a", "2f",
-            "/2", ":2", "@2", "a2", "2", "", "200", "020", " 2", "2 ", "+2", "-1"}) {
+            "3/", "3:", "3@", "3G", "3a", "/2", ":2", "@2", "a2", "2", "", "200", "020", " 2", "2 ", "+2", "-1"}) {
             refused(Check.HEAD + "id|\\X" + digits + "\\", 3);
         }
         refused(Check.HEAD + "id|\\x20\\", 3);
